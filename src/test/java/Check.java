@@ -60,7 +60,10 @@ final class Check {
 
     /** A call on a stirred wheel throws just that, and changes nothing. */
     static void refused(String what, Class<?> due, Call call) {
-        Yearwheel wheel = stirred();
+        refusedOn(what, due, stirred(), call);
+    }
+
+    static void refusedOn(String what, Class<?> due, Yearwheel wheel, Call call) {
         long[] before = picture(wheel);
         Class<?> got = thrown(() -> call.on(wheel));
         done++;
