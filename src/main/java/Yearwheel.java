@@ -387,10 +387,10 @@ public final class Yearwheel {
         checkSlot(to, SLOTS);
         // Only moments call the minutes 'i'.
         checkArgument(unit != 'i');
-        long size = Clock.sizeOf(unit == 'm' ? 'i' : unit);
-        checkArgument(size > 0);
+        long inDay = Clock.countInDay(unit == 'm' ? 'i' : unit);
+        checkArgument(inDay > 0);
         checkArgument(isIn(amount, -MOST_CLOCK_MOVED, MOST_CLOCK_MOVED));
-        times[to] = Clock.roundDay(times[slot] + Clock.restOfDay(amount, size));
+        times[to] = Clock.roundDay(times[slot] + Clock.restOfDay(amount, inDay));
         return times[to];
     }
 
@@ -421,7 +421,7 @@ public final class Yearwheel {
         checkSlot(slot, SLOTS);
         checkSlot(length, SLOTS);
         checkSlot(to, SLOTS);
-        long rest = Clock.restOfDay(lengthSeconds[length], Clock.SECOND) + lengthBillionths[length];
+        long rest = Clock.restOfDay(lengthSeconds[length], Clock.SECONDS_IN_DAY) + lengthBillionths[length];
         times[to] = Clock.roundDay(times[slot] + (isBack ? -rest : rest));
         return times[to];
     }
@@ -516,12 +516,12 @@ public final class Yearwheel {
             checkArgument(isIn(amount, -MOST_MOVED, MOST_MOVED));
             return keepMoment(to, Days.moved(momentDays[slot], unit, amount), momentTimes[slot]);
         }
-        long size = Clock.sizeOf(unit);
-        checkArgument(size > 0);
+        long inDay = Clock.countInDay(unit);
+        checkArgument(inDay > 0);
         checkArgument(isIn(amount, -MOST_CLOCK_MOVED, MOST_CLOCK_MOVED));
         // Days and the rest apart: so many hours are more billionths than a long holds.
-        long day = momentDays[slot] + Clock.daysIn(amount, size);
-        return keepMoment(to, day, momentTimes[slot] + Clock.restOfDay(amount, size));
+        long day = momentDays[slot] + Clock.daysOf(amount, inDay);
+        return keepMoment(to, day, momentTimes[slot] + Clock.restOfDay(amount, inDay));
     }
 
     public long goMoment(int slot, int length, boolean isBack, int to)
@@ -530,8 +530,8 @@ public final class Yearwheel {
         checkSlot(length, SLOTS);
         checkSlot(to, SLOTS);
         int way = isBack ? -1 : 1;
-        long day = momentDays[slot] + way * Clock.daysIn(lengthSeconds[length], Clock.SECOND);
-        long rest = Clock.restOfDay(lengthSeconds[length], Clock.SECOND) + lengthBillionths[length];
+        long day = momentDays[slot] + way * Clock.daysOf(lengthSeconds[length], Clock.SECONDS_IN_DAY);
+        long rest = Clock.restOfDay(lengthSeconds[length], Clock.SECONDS_IN_DAY) + lengthBillionths[length];
         return keepMoment(to, day, momentTimes[slot] + way * rest);
     }
 
@@ -540,7 +540,7 @@ public final class Yearwheel {
         checkSlot(other, SLOTS);
         checkSlot(to, SLOTS);
         long days = momentDays[other] - momentDays[slot];
-        return keepLength(to, days * Clock.SECONDS_OF_DAY, momentTimes[other] - momentTimes[slot]);
+        return keepLength(to, days * Clock.SECONDS_IN_DAY, momentTimes[other] - momentTimes[slot]);
     }
 
     public long whole(int slot, int other, char unit) throws IndexOutOfBoundsException, IllegalArgumentException {
@@ -660,15 +660,15 @@ public final class Yearwheel {
     private static boolean isSoundTimeWay(long from, long upTo) {
         long seconds = Math.floorDiv(upTo - from, Clock.SECOND);
         long billionths = Math.floorMod(upTo - from, Clock.SECOND);
-        return Clock.roundDay(from + Clock.restOfDay(seconds, Clock.SECOND) + billionths) == upTo;
+        return Clock.roundDay(from + Clock.restOfDay(seconds, Clock.SECONDS_IN_DAY) + billionths) == upTo;
     }
 
     private boolean isSoundMomentWay(int slot, int other) {
         long days = momentDays[other] - momentDays[slot];
         long billionths = momentTimes[other] - momentTimes[slot];
-        long seconds = days * Clock.SECONDS_OF_DAY + Math.floorDiv(billionths, Clock.SECOND);
-        long day = momentDays[slot] + Clock.daysIn(seconds, Clock.SECOND);
-        long time = momentTimes[slot] + Clock.restOfDay(seconds, Clock.SECOND)
+        long seconds = days * Clock.SECONDS_IN_DAY + Math.floorDiv(billionths, Clock.SECOND);
+        long day = momentDays[slot] + Clock.daysOf(seconds, Clock.SECONDS_IN_DAY);
+        long time = momentTimes[slot] + Clock.restOfDay(seconds, Clock.SECONDS_IN_DAY)
                 + Math.floorMod(billionths, Clock.SECOND);
         return day + Math.floorDiv(time, Clock.DAY) == momentDays[other]
                 && Clock.roundDay(time) == momentTimes[other];
@@ -899,19 +899,19 @@ public final class Yearwheel {
         static final long MINUTE = 60000000000L;
         static final long HOUR = 3600000000000L;
         static final long DAY = 86400000000000L;
-        static final long SECONDS_OF_DAY = 86400L;
+        static final long SECONDS_IN_DAY = 86400L;
 
-        /** By the units of moments; 0 if there is no such unit. */
-        static long sizeOf(char unit) {
+        /** Of a unit of moments; 0 if there is no such unit. */
+        static long countInDay(char unit) {
             switch (unit) {
                 case 'h':
-                    return HOUR;
+                    return 24L;
                 case 'i':
-                    return MINUTE;
+                    return 1440L;
                 case 's':
-                    return SECOND;
+                    return SECONDS_IN_DAY;
                 case 'n':
-                    return 1L;
+                    return DAY;
                 default:
                     return 0L;
             }
@@ -921,19 +921,13 @@ public final class Yearwheel {
             return Math.floorMod(billionths, DAY);
         }
 
-        /** As many of a size as a day has, so that nothing is multiplied ahead of the division. */
-        static long inDay(long size) {
-            return size > 0 && size <= DAY ? DAY / size : 1L;
+        static long daysOf(long amount, long inDay) {
+            return inDay > 0 ? Math.floorDiv(amount, inDay) : 0L;
         }
 
-        static long daysIn(long amount, long size) {
-            long most = inDay(size);
-            return most > 0 ? Math.floorDiv(amount, most) : 0L;
-        }
-
-        static long restOfDay(long amount, long size) {
-            long most = inDay(size);
-            return most > 0 ? Math.floorMod(amount, most) * size : 0L;
+        /** In billionths. */
+        static long restOfDay(long amount, long inDay) {
+            return inDay > 0 ? Math.floorMod(amount, inDay) * (DAY / inDay) : 0L;
         }
 
         /** Whole ones of a number and a rest that may have the other sign. */
@@ -945,7 +939,7 @@ public final class Yearwheel {
         }
 
         static long wholeSeconds(long days, long billionths) {
-            return cut(days * SECONDS_OF_DAY + billionths / SECOND, billionths % SECOND);
+            return cut(days * SECONDS_IN_DAY + billionths / SECOND, billionths % SECOND);
         }
     }
 }

@@ -73,8 +73,12 @@ final class Check {
         holds(what + ": a refused call changed something", Arrays.equals(before, picture(wheel)));
     }
 
-    /** No number beside the slots 0 to count - 1 is a slot. */
-    static void refusedSlots(String what, int count, SlotCall call) {
+    /** The slots 0 to count - 1 are taken, on a new wheel, and no other number is. */
+    static void onlySlots(String what, int count, SlotCall call) {
+        for (int slot = 0; slot < count; slot++) {
+            int each = slot;
+            holds(what + " takes the slot " + slot, thrown(() -> call.on(new Yearwheel(), each)) == null);
+        }
         for (int slot : new int[] {-1, count, count + 1, -count, 256, Integer.MIN_VALUE, Integer.MAX_VALUE}) {
             refused(what + " with the slot " + slot, INDEX, wheel -> call.on(wheel, slot));
         }

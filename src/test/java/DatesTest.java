@@ -72,7 +72,7 @@ public final class DatesTest {
     }
 
     private static void noSuchDate() {
-        Check.refusedSlots("2 date", 6, (w, slot) -> w.date(slot, 2020, 1, 1));
+        Check.onlySlots("2 date", 6, (w, slot) -> w.date(slot, 2020, 1, 1));
         Check.refused("2 the slot is looked at first", Check.INDEX, w -> w.date(6, 10000, 13, 32));
         int[][] none = {{2023, 2, 29}, {1900, 2, 29}, {-100, 2, 29}, {2020, 2, 30}, {2020, 4, 31}, {2020, 6, 31},
                 {2020, 9, 31}, {2020, 11, 31}, {2020, 1, 32}, {2020, 12, 32}, {2020, 1, 0}, {2020, 1, -1},
@@ -101,7 +101,7 @@ public final class DatesTest {
         Check.same("3 the last day", 9999, wheel.ofDay(5, LAST));
         Check.same("3 the first day is kept", FIRST, wheel.day(0));
         Check.same("3 the last day is kept", LAST, wheel.day(5));
-        Check.refusedSlots("3 ofDay", 6, (w, slot) -> w.ofDay(slot, 0));
+        Check.onlySlots("3 ofDay", 6, (w, slot) -> w.ofDay(slot, 0));
         Check.refused("3 the slot is looked at first", Check.INDEX, w -> w.ofDay(-1, LAST + 1));
         Check.refusedNumbers("3 ofDay", Check.UNSUPPORTED, (w, n) -> w.ofDay(0, n), FIRST - 1, LAST + 1,
                 Long.MIN_VALUE, Long.MAX_VALUE, 1L << 32, -(1L << 32));
@@ -115,7 +115,7 @@ public final class DatesTest {
                 Check.same("4 day", other == slot ? number(2001, 2, 3) : 0, wheel.day(other));
             }
         }
-        Check.refusedSlots("4 day", 6, (w, slot) -> w.day(slot));
+        Check.onlySlots("4 day", 6, (w, slot) -> w.day(slot));
     }
 
     private static void part() {
@@ -129,7 +129,7 @@ public final class DatesTest {
                 partsOf(LocalDate.ofYearDay(year, day));
             }
         }
-        Check.refusedSlots("5 part", 6, (w, slot) -> w.part(slot, 'y'));
+        Check.onlySlots("5 part", 6, (w, slot) -> w.part(slot, 'y'));
         Check.refused("5 the slot is looked at first", Check.INDEX, w -> w.part(6, 'x'));
         Check.refusedSigns("5 part", "ymdnwlLb", (w, sign) -> w.part(0, sign));
     }
@@ -183,8 +183,8 @@ public final class DatesTest {
     }
 
     private static void moveRefused() {
-        Check.refusedSlots("6 move", 6, (w, slot) -> w.move(slot, 'd', 1, 0));
-        Check.refusedSlots("6 move", 6, (w, slot) -> w.move(0, 'd', 1, slot));
+        Check.onlySlots("6 move", 6, (w, slot) -> w.move(slot, 'd', 1, 0));
+        Check.onlySlots("6 move", 6, (w, slot) -> w.move(0, 'd', 1, slot));
         Check.refused("6 the slots are looked at first", Check.INDEX, w -> w.move(0, 'x', 1000001, 6));
         Check.refusedSigns("6 move", "dwmy", (w, sign) -> w.move(0, sign, 1, 0));
         for (char unit : "dwmy".toCharArray()) {
@@ -232,8 +232,8 @@ public final class DatesTest {
     }
 
     private static void withRefused() {
-        Check.refusedSlots("7 with", 6, (w, slot) -> w.with(slot, 'd', 1, 0));
-        Check.refusedSlots("7 with", 6, (w, slot) -> w.with(0, 'd', 1, slot));
+        Check.onlySlots("7 with", 6, (w, slot) -> w.with(slot, 'd', 1, 0));
+        Check.onlySlots("7 with", 6, (w, slot) -> w.with(0, 'd', 1, slot));
         Check.refused("7 the slots are looked at first", Check.INDEX, w -> w.with(6, 'x', 0, 0));
         Check.refusedSigns("7 with", "dnmy", (w, sign) -> w.with(0, sign, 1, 1));
         Check.refusedNumbers("7 with a day", Check.ARGUMENT, (w, n) -> w.with(0, 'd', (int) n, 1), 0, -1, 30, 31, 32,
@@ -268,8 +268,8 @@ public final class DatesTest {
         came("8 the last day of all", LAST, last.adjust(0, 'l', 1), last, 1);
         came("8 the last day of the last year", LAST, last.adjust(0, 'L', 1), last, 1);
         came("8 the last month but one", number(9999, 12, 1), at(9999, 11, 3).adjust(0, 'n', 1), at(9999, 12, 1), 0);
-        Check.refusedSlots("8 adjust", 6, (w, slot) -> w.adjust(slot, 'f', 0));
-        Check.refusedSlots("8 adjust", 6, (w, slot) -> w.adjust(0, 'f', slot));
+        Check.onlySlots("8 adjust", 6, (w, slot) -> w.adjust(slot, 'f', 0));
+        Check.onlySlots("8 adjust", 6, (w, slot) -> w.adjust(0, 'f', slot));
         Check.refused("8 the slots are looked at first", Check.INDEX, w -> w.adjust(0, 'x', 6));
         Check.refusedSigns("8 adjust", "flnFLN", (w, sign) -> w.adjust(2, sign, 1));
         Check.refused("8 behind the last month", Check.UNSUPPORTED, w -> w.adjust(2, 'n', 1));
@@ -285,8 +285,8 @@ public final class DatesTest {
                 date = date.plusDays(1)) {
             weekdaysOf(date);
         }
-        Check.refusedSlots("9 weekday", 6, (w, slot) -> w.weekday(slot, 'n', 1, 0));
-        Check.refusedSlots("9 weekday", 6, (w, slot) -> w.weekday(0, 'n', 1, slot));
+        Check.onlySlots("9 weekday", 6, (w, slot) -> w.weekday(slot, 'n', 1, 0));
+        Check.onlySlots("9 weekday", 6, (w, slot) -> w.weekday(0, 'n', 1, slot));
         Check.refused("9 the slots are looked at first", Check.INDEX, w -> w.weekday(6, 'x', 8, 0));
         Check.refusedSigns("9 weekday", "npNPfl", (w, sign) -> w.weekday(0, sign, 3, 1));
         for (char how : "npNPfl".toCharArray()) {
@@ -348,8 +348,8 @@ public final class DatesTest {
                 }
             }
         }
-        Check.refusedSlots("10 inMonth", 6, (w, slot) -> w.inMonth(slot, 1, 1, 0));
-        Check.refusedSlots("10 inMonth", 6, (w, slot) -> w.inMonth(0, 1, 1, slot));
+        Check.onlySlots("10 inMonth", 6, (w, slot) -> w.inMonth(slot, 1, 1, 0));
+        Check.onlySlots("10 inMonth", 6, (w, slot) -> w.inMonth(0, 1, 1, slot));
         Check.refused("10 the slots are looked at first", Check.INDEX, w -> w.inMonth(0, 7, 8, 6));
         Check.refusedNumbers("10 inMonth", Check.ARGUMENT, (w, n) -> w.inMonth(0, (int) n, 1, 1), 7, -7,
                 Integer.MAX_VALUE, Integer.MIN_VALUE);
@@ -378,7 +378,7 @@ public final class DatesTest {
                         w -> w.atYear(each, java.time.Month.of(each).maxLength() + 1, 2020, 1));
             }
         }
-        Check.refusedSlots("11 atYear", 6, (w, slot) -> w.atYear(1, 1, 2020, slot));
+        Check.onlySlots("11 atYear", 6, (w, slot) -> w.atYear(1, 1, 2020, slot));
         Check.refused("11 the slot is looked at first", Check.INDEX, w -> w.atYear(0, 0, 10000, 6));
         Check.refusedNumbers("11 a month", Check.ARGUMENT, (w, n) -> w.atYear((int) n, 1, 2020, 1), 0, 13, -1,
                 Integer.MAX_VALUE, Integer.MIN_VALUE);
@@ -396,8 +396,8 @@ public final class DatesTest {
             }
         }
         Check.same("12 the same", 0, new Yearwheel().order(0, 5));
-        Check.refusedSlots("12 order", 6, (w, slot) -> w.order(slot, 0));
-        Check.refusedSlots("12 order", 6, (w, slot) -> w.order(0, slot));
+        Check.onlySlots("12 order", 6, (w, slot) -> w.order(slot, 0));
+        Check.onlySlots("12 order", 6, (w, slot) -> w.order(0, slot));
     }
 
     private static void between() {
@@ -421,8 +421,8 @@ public final class DatesTest {
         Check.same("13 all the days", LAST - FIRST, wide.between(1, 2, 'd'));
         Check.same("13 all the years back", -19998, wide.between(2, 1, 'y'));
         Check.same("13 all the months", 19998 * 12 + 11, wide.between(1, 2, 'm'));
-        Check.refusedSlots("13 between", 6, (w, slot) -> w.between(slot, 0, 'd'));
-        Check.refusedSlots("13 between", 6, (w, slot) -> w.between(0, slot, 'd'));
+        Check.onlySlots("13 between", 6, (w, slot) -> w.between(slot, 0, 'd'));
+        Check.onlySlots("13 between", 6, (w, slot) -> w.between(0, slot, 'd'));
         Check.refused("13 the slots are looked at first", Check.INDEX, w -> w.between(0, 6, 'x'));
         Check.refusedSigns("13 between", "dwmy", (w, sign) -> w.between(0, 1, sign));
     }

@@ -55,7 +55,7 @@ public final class LengthsTest {
     }
 
     private static void lengthRefused() {
-        Check.refusedSlots("33 length", 4, (w, slot) -> w.length(slot, 0, 0));
+        Check.onlySlots("33 length", 4, (w, slot) -> w.length(slot, 0, 0));
         Check.refused("33 the slot is looked at first", Check.INDEX, w -> w.length(4, MOST_SECONDS + 1, 1));
         Check.refusedNumbers("33 seconds", Check.ARGUMENT, (w, n) -> w.length(0, n, 0), MOST_SECONDS + 1,
                 -MOST_SECONDS - 1, Long.MAX_VALUE, Long.MIN_VALUE);
@@ -77,7 +77,7 @@ public final class LengthsTest {
                 holds("34 lengthPart", slot == other ? Duration.ofSeconds(7, 9) : Duration.ZERO, wheel, other);
             }
         }
-        Check.refusedSlots("34 lengthPart", 4, (w, slot) -> w.lengthPart(slot, 's'));
+        Check.onlySlots("34 lengthPart", 4, (w, slot) -> w.lengthPart(slot, 's'));
         Check.refused("34 the slot is looked at first", Check.INDEX, w -> w.lengthPart(4, 'x'));
         Check.refusedSigns("34 lengthPart", "sn", (w, sign) -> w.lengthPart(0, sign));
     }
@@ -95,9 +95,9 @@ public final class LengthsTest {
         wheel.length(1, -3, 600000000);
         Check.same("35 in place", -5, wheel.addLength(1, 1, false, 1));
         holds("35 in place", Duration.ofSeconds(-5, 200000000), wheel, 1);
-        Check.refusedSlots("35 addLength", 4, (w, slot) -> w.addLength(slot, 2, false, 0));
-        Check.refusedSlots("35 addLength", 4, (w, slot) -> w.addLength(0, slot, false, 0));
-        Check.refusedSlots("35 addLength", 4, (w, slot) -> w.addLength(0, 2, false, slot));
+        Check.onlySlots("35 addLength", 4, (w, slot) -> w.addLength(slot, 2, false, 0));
+        Check.onlySlots("35 addLength", 4, (w, slot) -> w.addLength(0, slot, false, 0));
+        Check.onlySlots("35 addLength", 4, (w, slot) -> w.addLength(0, 2, false, slot));
         Check.refused("35 the slots are looked at first", Check.INDEX, w -> w.addLength(0, 0, false, 4));
     }
 
@@ -133,8 +133,8 @@ public final class LengthsTest {
                 }
             }
         }
-        Check.refusedSlots("36 timesLength", 4, (w, slot) -> w.timesLength(slot, 0, 0));
-        Check.refusedSlots("36 timesLength", 4, (w, slot) -> w.timesLength(0, 0, slot));
+        Check.onlySlots("36 timesLength", 4, (w, slot) -> w.timesLength(slot, 0, 0));
+        Check.onlySlots("36 timesLength", 4, (w, slot) -> w.timesLength(0, 0, slot));
         Check.refused("36 the slots are looked at first", Check.INDEX, w -> w.timesLength(0, 1001, 4));
         Check.refusedNumbers("36 timesLength", Check.ARGUMENT, (w, n) -> w.timesLength(2, (int) n, 0), 1001, -1001,
                 Integer.MAX_VALUE, Integer.MIN_VALUE);
@@ -157,9 +157,9 @@ public final class LengthsTest {
                         .longValue(), wheel.lengthPart(3, 'n'));
             }
         }
-        Check.refusedSlots("37 lengthOfTimes", 4, (w, slot) -> w.lengthOfTimes(slot, 0, 0));
-        Check.refusedSlots("37 lengthOfTimes", 4, (w, slot) -> w.lengthOfTimes(0, slot, 0));
-        Check.refusedSlots("37 lengthOfTimes", 4, (w, slot) -> w.lengthOfTimes(0, 0, slot));
+        Check.onlySlots("37 lengthOfTimes", 4, (w, slot) -> w.lengthOfTimes(slot, 0, 0));
+        Check.onlySlots("37 lengthOfTimes", 4, (w, slot) -> w.lengthOfTimes(0, slot, 0));
+        Check.onlySlots("37 lengthOfTimes", 4, (w, slot) -> w.lengthOfTimes(0, 0, slot));
     }
 
     private static void orderLengths() {
@@ -172,7 +172,7 @@ public final class LengthsTest {
                 Check.same("38 orderLengths", Integer.signum(due), wheel.orderLengths(2, 3));
             }
         }
-        Check.refusedSlots("38 orderLengths", 4, (w, slot) -> w.orderLengths(slot, 0));
-        Check.refusedSlots("38 orderLengths", 4, (w, slot) -> w.orderLengths(0, slot));
+        Check.onlySlots("38 orderLengths", 4, (w, slot) -> w.orderLengths(slot, 0));
+        Check.onlySlots("38 orderLengths", 4, (w, slot) -> w.orderLengths(0, slot));
     }
 }

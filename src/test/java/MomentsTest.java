@@ -72,9 +72,9 @@ public final class MomentsTest {
             Check.same("39 each slot", edges.day(2), edges.moment(slot, 2, 2));
             holds("39 each slot", LAST, edges, slot);
         }
-        Check.refusedSlots("39 moment", 4, (w, slot) -> w.moment(slot, 0, 0));
-        Check.refusedSlots("39 moment", 6, (w, slot) -> w.moment(0, slot, 0));
-        Check.refusedSlots("39 moment", 4, (w, slot) -> w.moment(0, 0, slot));
+        Check.onlySlots("39 moment", 4, (w, slot) -> w.moment(slot, 0, 0));
+        Check.onlySlots("39 moment", 6, (w, slot) -> w.moment(0, slot, 0));
+        Check.onlySlots("39 moment", 4, (w, slot) -> w.moment(0, 0, slot));
     }
 
     private static void dateOf() {
@@ -85,8 +85,8 @@ public final class MomentsTest {
             Check.same("40 its slot", due, wheel.day(5));
             Check.same("40 the others stay", 0, wheel.day(0));
         }
-        Check.refusedSlots("40 dateOf", 4, (w, slot) -> w.dateOf(slot, 0));
-        Check.refusedSlots("40 dateOf", 6, (w, slot) -> w.dateOf(0, slot));
+        Check.onlySlots("40 dateOf", 4, (w, slot) -> w.dateOf(slot, 0));
+        Check.onlySlots("40 dateOf", 6, (w, slot) -> w.dateOf(0, slot));
     }
 
     private static void timeOf() {
@@ -98,8 +98,8 @@ public final class MomentsTest {
             Check.same("41 its slot", due.getNano(), wheel.timePart(3, 'n'));
             Check.same("41 the others stay", 0, wheel.timePart(0, 'n'));
         }
-        Check.refusedSlots("41 timeOf", 4, (w, slot) -> w.timeOf(slot, 0));
-        Check.refusedSlots("41 timeOf", 4, (w, slot) -> w.timeOf(0, slot));
+        Check.onlySlots("41 timeOf", 4, (w, slot) -> w.timeOf(slot, 0));
+        Check.onlySlots("41 timeOf", 4, (w, slot) -> w.timeOf(0, slot));
     }
 
     private static void moveByDates() {
@@ -151,8 +151,8 @@ public final class MomentsTest {
     }
 
     private static void moveRefused() {
-        Check.refusedSlots("42 moveMoment", 4, (w, slot) -> w.moveMoment(slot, 'h', 0, 0));
-        Check.refusedSlots("42 moveMoment", 4, (w, slot) -> w.moveMoment(0, 'h', 0, slot));
+        Check.onlySlots("42 moveMoment", 4, (w, slot) -> w.moveMoment(slot, 'h', 0, 0));
+        Check.onlySlots("42 moveMoment", 4, (w, slot) -> w.moveMoment(0, 'h', 0, slot));
         Check.refused("42 the slots are looked at first", Check.INDEX, w -> w.moveMoment(0, 'x', MOST + 1, 4));
         Check.refusedSigns("42 moveMoment", "ymwdhisn", (w, sign) -> w.moveMoment(0, sign, 1, 0));
         for (char unit : "ymwd".toCharArray()) {
@@ -198,9 +198,9 @@ public final class MomentsTest {
     }
 
     private static void goRefused() {
-        Check.refusedSlots("43 goMoment", 4, (w, slot) -> w.goMoment(slot, 2, false, 0));
-        Check.refusedSlots("43 goMoment", 4, (w, slot) -> w.goMoment(0, slot, false, 0));
-        Check.refusedSlots("43 goMoment", 4, (w, slot) -> w.goMoment(0, 2, false, slot));
+        Check.onlySlots("43 goMoment", 4, (w, slot) -> w.goMoment(slot, 2, false, 0));
+        Check.onlySlots("43 goMoment", 4, (w, slot) -> w.goMoment(0, slot, false, 0));
+        Check.onlySlots("43 goMoment", 4, (w, slot) -> w.goMoment(0, 2, false, slot));
         Check.refused("43 the slots are looked at first", Check.INDEX, w -> w.goMoment(0, 0, false, 4));
         Check.refused("43 behind the last", Check.UNSUPPORTED, w -> w.goMoment(2, 3, false, 0));
         Check.refused("43 ahead of the first", Check.UNSUPPORTED, w -> w.goMoment(1, 3, true, 0));
@@ -225,9 +225,9 @@ public final class MomentsTest {
                 holds("44 it leads there", other, wheel, 1);
             }
         }
-        Check.refusedSlots("44 lengthOfMoments", 4, (w, slot) -> w.lengthOfMoments(slot, 0, 0));
-        Check.refusedSlots("44 lengthOfMoments", 4, (w, slot) -> w.lengthOfMoments(0, slot, 0));
-        Check.refusedSlots("44 lengthOfMoments", 4, (w, slot) -> w.lengthOfMoments(0, 0, slot));
+        Check.onlySlots("44 lengthOfMoments", 4, (w, slot) -> w.lengthOfMoments(slot, 0, 0));
+        Check.onlySlots("44 lengthOfMoments", 4, (w, slot) -> w.lengthOfMoments(0, slot, 0));
+        Check.onlySlots("44 lengthOfMoments", 4, (w, slot) -> w.lengthOfMoments(0, 0, slot));
     }
 
     private static void whole() {
@@ -241,8 +241,8 @@ public final class MomentsTest {
                 Check.same(what + " s", ChronoUnit.SECONDS.between(one, other), wheel.whole(0, 3, 's'));
             }
         }
-        Check.refusedSlots("45 whole", 4, (w, slot) -> w.whole(slot, 0, 'd'));
-        Check.refusedSlots("45 whole", 4, (w, slot) -> w.whole(0, slot, 'd'));
+        Check.onlySlots("45 whole", 4, (w, slot) -> w.whole(slot, 0, 'd'));
+        Check.onlySlots("45 whole", 4, (w, slot) -> w.whole(0, slot, 'd'));
         Check.refused("45 the slots are looked at first", Check.INDEX, w -> w.whole(0, 4, 'x'));
         Check.refusedSigns("45 whole", "dhis", (w, sign) -> w.whole(0, 1, sign));
     }
@@ -253,7 +253,7 @@ public final class MomentsTest {
                 Check.same("46 orderMoments", Integer.signum(one.compareTo(other)), two(one, other).orderMoments(0, 3));
             }
         }
-        Check.refusedSlots("46 orderMoments", 4, (w, slot) -> w.orderMoments(slot, 0));
-        Check.refusedSlots("46 orderMoments", 4, (w, slot) -> w.orderMoments(0, slot));
+        Check.onlySlots("46 orderMoments", 4, (w, slot) -> w.orderMoments(slot, 0));
+        Check.onlySlots("46 orderMoments", 4, (w, slot) -> w.orderMoments(0, slot));
     }
 }

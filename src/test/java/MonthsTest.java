@@ -35,7 +35,7 @@ public final class MonthsTest {
                 holds("21 the others stay", YearMonth.of(1970, 1), wheel, 3);
             }
         }
-        Check.refusedSlots("21 month", 4, (w, slot) -> w.month(slot, 2020, 1));
+        Check.onlySlots("21 month", 4, (w, slot) -> w.month(slot, 2020, 1));
         Check.refused("21 the slot is looked at first", Check.INDEX, w -> w.month(4, 10000, 13));
         Check.refusedNumbers("21 a month", Check.ARGUMENT, (w, n) -> w.month(0, 2020, (int) n), 0, 13, -1,
                 Integer.MAX_VALUE, Integer.MIN_VALUE);
@@ -64,8 +64,8 @@ public final class MonthsTest {
     }
 
     private static void moveRefused() {
-        Check.refusedSlots("22 moveMonth", 4, (w, slot) -> w.moveMonth(slot, 'm', 0, 0));
-        Check.refusedSlots("22 moveMonth", 4, (w, slot) -> w.moveMonth(0, 'm', 0, slot));
+        Check.onlySlots("22 moveMonth", 4, (w, slot) -> w.moveMonth(slot, 'm', 0, 0));
+        Check.onlySlots("22 moveMonth", 4, (w, slot) -> w.moveMonth(0, 'm', 0, slot));
         Check.refused("22 the slots are looked at first", Check.INDEX, w -> w.moveMonth(0, 'x', 1000001, 4));
         Check.refusedSigns("22 moveMonth", "my", (w, sign) -> w.moveMonth(0, sign, 1, 0));
         for (char unit : "my".toCharArray()) {
@@ -87,7 +87,7 @@ public final class MonthsTest {
                 holds("23 monthPart", slot == other ? YearMonth.of(2024, 2) : YearMonth.of(1970, 1), wheel, other);
             }
         }
-        Check.refusedSlots("23 monthPart", 4, (w, slot) -> w.monthPart(slot, 'y'));
+        Check.onlySlots("23 monthPart", 4, (w, slot) -> w.monthPart(slot, 'y'));
         Check.refused("23 the slot is looked at first", Check.INDEX, w -> w.monthPart(4, 'x'));
         Check.refusedSigns("23 monthPart", "ymlL", (w, sign) -> w.monthPart(0, sign));
     }
@@ -107,8 +107,8 @@ public final class MonthsTest {
                         w -> w.atDay(0, of.lengthOfMonth() + 1, 4));
             }
         }
-        Check.refusedSlots("24 atDay", 4, (w, slot) -> w.atDay(slot, 1, 0));
-        Check.refusedSlots("24 atDay", 6, (w, slot) -> w.atDay(0, 1, slot));
+        Check.onlySlots("24 atDay", 4, (w, slot) -> w.atDay(slot, 1, 0));
+        Check.onlySlots("24 atDay", 6, (w, slot) -> w.atDay(0, 1, slot));
         Check.refused("24 the slots are looked at first", Check.INDEX, w -> w.atDay(0, 30, 6));
         Check.refusedNumbers("24 a day", Check.ARGUMENT, (w, n) -> w.atDay(3, (int) n, 0), -1, 29, 30, 31, 32,
                 Integer.MAX_VALUE, Integer.MIN_VALUE);
@@ -126,7 +126,7 @@ public final class MonthsTest {
         Check.same("25 in one year", -1, wheel.orderMonths(1, 0));
         wheel.month(1, 1999, 12);
         Check.same("25 the year counts first", -1, wheel.orderMonths(1, 0));
-        Check.refusedSlots("25 orderMonths", 4, (w, slot) -> w.orderMonths(slot, 0));
-        Check.refusedSlots("25 orderMonths", 4, (w, slot) -> w.orderMonths(0, slot));
+        Check.onlySlots("25 orderMonths", 4, (w, slot) -> w.orderMonths(slot, 0));
+        Check.onlySlots("25 orderMonths", 4, (w, slot) -> w.orderMonths(0, slot));
     }
 }

@@ -89,7 +89,7 @@ public final class RulesTest {
     private static void nothingForbidden(String code) {
         String[] words = {"\\bimport\\b", "\\bpackage\\b", "\\bstatic \\{", "\\btry\\b", "\\bcatch\\b", "\\bfinally\\b",
                 "\\bsynchronized\\b", "\\bassert\\b", "->", "::", "Exact\\b", "\\bSystem\\b", "\\bThread\\b",
-                "\\bRandom\\b", "\\bequals\\b", "\\bhashCode\\b", "\\btoString\\b", "\\bwhile\\b", "\\bvolatile\\b",
+                "\\bRandom\\b", "\\bequals\\b", "\\bhashCode\\b", "\\btoString\\b", "\\bvolatile\\b",
                 "\\bnative\\b", "\\bvar\\b", "\\bObject\\b", "\\bjava\\.", "\\bMath\\.(?!floorDiv|floorMod|min|max)",
                 "\"\\s*\\+", "\\+\\s*\""};
         for (String word : words) {

@@ -40,7 +40,7 @@ public final class SpansTest {
         holds("14 the most", wheel, 1, 1000000, 1000000, 1000000);
         Check.same("14 the least", -13000000, wheel.span(2, -1000000, -1000000, -1000000));
         holds("14 the least", wheel, 2, -1000000, -1000000, -1000000);
-        Check.refusedSlots("14 span", 4, (w, slot) -> w.span(slot, 1, 1, 1));
+        Check.onlySlots("14 span", 4, (w, slot) -> w.span(slot, 1, 1, 1));
         Check.refused("14 the slot is looked at first", Check.INDEX, w -> w.span(4, 1000001, 0, 0));
         long[] none = {1000001, -1000001, Integer.MAX_VALUE, Integer.MIN_VALUE};
         Check.refusedNumbers("14 years", Check.ARGUMENT, (w, n) -> w.span(0, (int) n, 0, 0), none);
@@ -62,9 +62,9 @@ public final class SpansTest {
         Yearwheel wide = Check.stirred();
         Check.same("15 the whole way", 19998 * 12 + 11, wide.until(1, 2, 0));
         holds("15 the whole way", wide, 0, 19998, 11, 30);
-        Check.refusedSlots("15 until", 6, (w, slot) -> w.until(slot, 2, 0));
-        Check.refusedSlots("15 until", 6, (w, slot) -> w.until(1, slot, 0));
-        Check.refusedSlots("15 until", 4, (w, slot) -> w.until(1, 2, slot));
+        Check.onlySlots("15 until", 6, (w, slot) -> w.until(slot, 2, 0));
+        Check.onlySlots("15 until", 6, (w, slot) -> w.until(1, slot, 0));
+        Check.onlySlots("15 until", 4, (w, slot) -> w.until(1, 2, slot));
         Check.refused("15 the slots are looked at first", Check.INDEX, w -> w.until(2, 1, 4));
         Check.refused("15 the other one is ahead", Check.UNSUPPORTED, w -> w.until(2, 1, 0));
         Yearwheel near = new Yearwheel();
@@ -127,9 +127,9 @@ public final class SpansTest {
     }
 
     private static void goRefused() {
-        Check.refusedSlots("16 go", 6, (w, slot) -> w.go(slot, 3, false, 0));
-        Check.refusedSlots("16 go", 4, (w, slot) -> w.go(0, slot, false, 0));
-        Check.refusedSlots("16 go", 6, (w, slot) -> w.go(0, 3, false, slot));
+        Check.onlySlots("16 go", 6, (w, slot) -> w.go(slot, 3, false, 0));
+        Check.onlySlots("16 go", 4, (w, slot) -> w.go(0, slot, false, 0));
+        Check.onlySlots("16 go", 6, (w, slot) -> w.go(0, 3, false, slot));
         Check.refused("16 the slots are looked at first", Check.INDEX, w -> w.go(0, 1, false, 6));
         Check.refused("16 far behind", Check.UNSUPPORTED, w -> w.go(0, 1, false, 0));
         Check.refused("16 far ahead", Check.UNSUPPORTED, w -> w.go(0, 1, true, 0));
@@ -147,7 +147,7 @@ public final class SpansTest {
                 holds("17 spanPart", wheel, other, it ? 7 : 0, it ? -8 : 0, it ? 9 : 0);
             }
         }
-        Check.refusedSlots("17 spanPart", 4, (w, slot) -> w.spanPart(slot, 'y'));
+        Check.onlySlots("17 spanPart", 4, (w, slot) -> w.spanPart(slot, 'y'));
         Check.refused("17 the slot is looked at first", Check.INDEX, w -> w.spanPart(4, 'x'));
         Check.refusedSigns("17 spanPart", "ymd", (w, sign) -> w.spanPart(0, sign));
     }
@@ -162,9 +162,9 @@ public final class SpansTest {
         holds("18 the one stays", wheel, 0, 1, 15, 40);
         Check.same("18 doubled in place", 54, wheel.addSpan(0, 0, false, 0));
         holds("18 doubled in place", wheel, 0, 2, 30, 80);
-        Check.refusedSlots("18 addSpan", 4, (w, slot) -> w.addSpan(slot, 0, false, 0));
-        Check.refusedSlots("18 addSpan", 4, (w, slot) -> w.addSpan(0, slot, false, 0));
-        Check.refusedSlots("18 addSpan", 4, (w, slot) -> w.addSpan(0, 0, false, slot));
+        Check.onlySlots("18 addSpan", 4, (w, slot) -> w.addSpan(slot, 0, false, 0));
+        Check.onlySlots("18 addSpan", 4, (w, slot) -> w.addSpan(0, slot, false, 0));
+        Check.onlySlots("18 addSpan", 4, (w, slot) -> w.addSpan(0, 0, false, slot));
         Check.refused("18 the slots are looked at first", Check.INDEX, w -> w.addSpan(1, 1, false, 4));
         for (int part = 0; part < 3; part++) {
             overEdge(part, 1);
@@ -203,8 +203,8 @@ public final class SpansTest {
         Check.same("19 in place", 27, wheel.timesSpan(0, 1, 0));
         holds("19 in place", wheel, 0, 2, 3, -40);
         Check.same("19 to the very edge", 12000000, with(10000, 0, 0).timesSpan(0, 100, 0));
-        Check.refusedSlots("19 timesSpan", 4, (w, slot) -> w.timesSpan(slot, 1, 0));
-        Check.refusedSlots("19 timesSpan", 4, (w, slot) -> w.timesSpan(0, 1, slot));
+        Check.onlySlots("19 timesSpan", 4, (w, slot) -> w.timesSpan(slot, 1, 0));
+        Check.onlySlots("19 timesSpan", 4, (w, slot) -> w.timesSpan(0, 1, slot));
         Check.refused("19 the slots are looked at first", Check.INDEX, w -> w.timesSpan(0, 101, 4));
         Check.refusedNumbers("19 timesSpan", Check.ARGUMENT, (w, n) -> w.timesSpan(3, (int) n, 0), 101, -101,
                 Integer.MAX_VALUE, Integer.MIN_VALUE);
@@ -229,8 +229,8 @@ public final class SpansTest {
             holds("20 " + due, wheel, 3, due.getYears(), due.getMonths(), due.getDays());
             holds("20 the span itself stays", wheel, 0, each[0], each[1], each[2]);
         }
-        Check.refusedSlots("20 plainSpan", 4, (w, slot) -> w.plainSpan(slot, 0));
-        Check.refusedSlots("20 plainSpan", 4, (w, slot) -> w.plainSpan(0, slot));
+        Check.onlySlots("20 plainSpan", 4, (w, slot) -> w.plainSpan(slot, 0));
+        Check.onlySlots("20 plainSpan", 4, (w, slot) -> w.plainSpan(0, slot));
         Check.refused("20 the slots are looked at first", Check.INDEX, w -> w.plainSpan(1, 4));
         Check.refused("20 too many years", Check.UNSUPPORTED, w -> w.plainSpan(1, 0));
         Check.refusedOn("20 a year too much", Check.UNSUPPORTED, with(1000000, 12, 0), w -> w.plainSpan(0, 0));

@@ -43,7 +43,7 @@ public final class TimesTest {
         Check.same("26 an hour", 3600000000000L, wheel.time(1, 1, 0, 0, 0));
         Check.same("26 a minute", 60000000000L, wheel.time(1, 0, 1, 0, 0));
         Check.same("26 a second", 1000000000L, wheel.time(1, 0, 0, 1, 0));
-        Check.refusedSlots("26 time", 4, (w, slot) -> w.time(slot, 1, 1, 1, 1));
+        Check.onlySlots("26 time", 4, (w, slot) -> w.time(slot, 1, 1, 1, 1));
         Check.refused("26 the slot is looked at first", Check.INDEX, w -> w.time(4, 24, 60, 60, -1));
         int least = Integer.MIN_VALUE;
         int most = Integer.MAX_VALUE;
@@ -61,7 +61,7 @@ public final class TimesTest {
             Check.same("27 ofBillionths", due.getHour(), wheel.ofBillionths(2, number));
             holds("27 ofBillionths", due, wheel, 2);
         }
-        Check.refusedSlots("27 ofBillionths", 4, (w, slot) -> w.ofBillionths(slot, 0));
+        Check.onlySlots("27 ofBillionths", 4, (w, slot) -> w.ofBillionths(slot, 0));
         Check.refused("27 the slot is looked at first", Check.INDEX, w -> w.ofBillionths(4, -1));
         Check.refusedNumbers("27 ofBillionths", Check.ARGUMENT, (w, n) -> w.ofBillionths(0, n), DAY, -1, Long.MIN_VALUE,
                 Long.MAX_VALUE);
@@ -75,7 +75,7 @@ public final class TimesTest {
                 holds("28 timePart", slot == other ? LocalTime.of(21, 43, 5, 123456789) : LocalTime.MIN, wheel, other);
             }
         }
-        Check.refusedSlots("28 timePart", 4, (w, slot) -> w.timePart(slot, 'h'));
+        Check.onlySlots("28 timePart", 4, (w, slot) -> w.timePart(slot, 'h'));
         Check.refused("28 the slot is looked at first", Check.INDEX, w -> w.timePart(4, 'x'));
         Check.refusedSigns("28 timePart", "hmsn", (w, sign) -> w.timePart(0, sign));
     }
@@ -105,8 +105,8 @@ public final class TimesTest {
     }
 
     private static void moveRefused() {
-        Check.refusedSlots("29 moveTime", 4, (w, slot) -> w.moveTime(slot, 'h', 1, 0));
-        Check.refusedSlots("29 moveTime", 4, (w, slot) -> w.moveTime(0, 'h', 1, slot));
+        Check.onlySlots("29 moveTime", 4, (w, slot) -> w.moveTime(slot, 'h', 1, 0));
+        Check.onlySlots("29 moveTime", 4, (w, slot) -> w.moveTime(0, 'h', 1, slot));
         Check.refused("29 the slots are looked at first", Check.INDEX, w -> w.moveTime(0, 'x', MOST + 1, 4));
         Check.refusedSigns("29 moveTime", "hmsn", (w, sign) -> w.moveTime(0, sign, 1, 0));
         for (char unit : "hmsn".toCharArray()) {
@@ -125,8 +125,10 @@ public final class TimesTest {
         }
         Yearwheel wheel = at(DAY - 1);
         Check.same("30 in place", 86340000000000L, wheel.cutTime(0, 'm', 0));
-        Check.refusedSlots("30 cutTime", 4, (w, slot) -> w.cutTime(slot, 'h', 0));
-        Check.refusedSlots("30 cutTime", 4, (w, slot) -> w.cutTime(0, 'h', slot));
+        Check.same("30 to the day in place", 0, wheel.cutTime(0, 'd', 0));
+        holds("30 to the day in place", LocalTime.MIDNIGHT, wheel, 0);
+        Check.onlySlots("30 cutTime", 4, (w, slot) -> w.cutTime(slot, 'h', 0));
+        Check.onlySlots("30 cutTime", 4, (w, slot) -> w.cutTime(0, 'h', slot));
         Check.refused("30 the slots are looked at first", Check.INDEX, w -> w.cutTime(0, 'x', 4));
         Check.refusedSigns("30 cutTime", "hmsd", (w, sign) -> w.cutTime(0, sign, 0));
     }
@@ -158,9 +160,9 @@ public final class TimesTest {
                 Check.same("31 in place", on.toNanoOfDay(), wheel.goTime(0, 3, false, 0));
             }
         }
-        Check.refusedSlots("31 goTime", 4, (w, slot) -> w.goTime(slot, 0, false, 0));
-        Check.refusedSlots("31 goTime", 4, (w, slot) -> w.goTime(0, slot, false, 0));
-        Check.refusedSlots("31 goTime", 4, (w, slot) -> w.goTime(0, 0, true, slot));
+        Check.onlySlots("31 goTime", 4, (w, slot) -> w.goTime(slot, 0, false, 0));
+        Check.onlySlots("31 goTime", 4, (w, slot) -> w.goTime(0, slot, false, 0));
+        Check.onlySlots("31 goTime", 4, (w, slot) -> w.goTime(0, 0, true, slot));
     }
 
     private static void orderTimes() {
@@ -171,7 +173,7 @@ public final class TimesTest {
                 Check.same("32 orderTimes", Integer.compare(due[slot], due[other]), wheel.orderTimes(slot, other));
             }
         }
-        Check.refusedSlots("32 orderTimes", 4, (w, slot) -> w.orderTimes(slot, 0));
-        Check.refusedSlots("32 orderTimes", 4, (w, slot) -> w.orderTimes(0, slot));
+        Check.onlySlots("32 orderTimes", 4, (w, slot) -> w.orderTimes(slot, 0));
+        Check.onlySlots("32 orderTimes", 4, (w, slot) -> w.orderTimes(0, slot));
     }
 }
