@@ -866,7 +866,8 @@ public final class Yearwheel {
         }
 
         static long plusMonths(long number, long amount) {
-            return dayOrLast(monthOfDay(number) + amount, dayInMonth(number));
+            long month = monthOfDay(number);
+            return dayOrLast(month + amount, number - firstOfMonth(month) + 1);
         }
 
         static long moved(long number, char unit, long amount) {
@@ -885,8 +886,10 @@ public final class Yearwheel {
         static long wholeMonths(long from, long upTo) {
             long earlier = Math.min(from, upTo);
             long later = Math.max(from, upTo);
-            long whole = monthOfDay(later) - monthOfDay(earlier);
-            if (dayInMonth(later) < dayInMonth(earlier)) {
+            long earlierMonth = monthOfDay(earlier);
+            long laterMonth = monthOfDay(later);
+            long whole = laterMonth - earlierMonth;
+            if (later - firstOfMonth(laterMonth) < earlier - firstOfMonth(earlierMonth)) {
                 whole--;
             }
             return upTo < from ? -whole : whole;

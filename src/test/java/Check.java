@@ -158,7 +158,8 @@ final class Check {
             seen[count++] = wheel.spanPart(slot, 'd');
             seen[count++] = wheel.monthPart(slot, 'y');
             seen[count++] = wheel.monthPart(slot, 'm');
-            seen[count++] = wheel.timePart(slot, 'h') * 3600 + wheel.timePart(slot, 'm') * 60 + wheel.timePart(slot, 's');
+            seen[count++] = wheel.timePart(slot, 'h') * 3600 + wheel.timePart(slot, 'm') * 60
+                    + wheel.timePart(slot, 's');
             seen[count++] = wheel.timePart(slot, 'n');
             seen[count++] = wheel.lengthPart(slot, 's');
             seen[count++] = wheel.lengthPart(slot, 'n');

@@ -294,8 +294,8 @@ public final class DatesTest {
                     Integer.MAX_VALUE, Integer.MIN_VALUE);
         }
         Check.same("9 the last date", 5, at(9999, 12, 31).part(0, 'w'));
-        Check.same("9 the first date", LocalDate.of(-9999, 1, 1).getDayOfWeek().getValue(), at(-9999, 1, 1).part(0, 'w'));
         int first = LocalDate.of(-9999, 1, 1).getDayOfWeek().getValue();
+        Check.same("9 the first date", first, at(-9999, 1, 1).part(0, 'w'));
         for (int weekday = 1; weekday <= 7; weekday++) {
             int each = weekday;
             Check.refused("9 behind the last", Check.UNSUPPORTED, w -> w.weekday(2, 'n', each, 0));
@@ -344,7 +344,8 @@ public final class DatesTest {
                 Yearwheel wheel = at(date);
                 for (int n = -6; n <= 6; n++) {
                     long due = date.with(TemporalAdjusters.dayOfWeekInMonth(n, DayOfWeek.of(weekday))).toEpochDay();
-                    came("10 inMonth " + date + " " + n + " " + weekday, due, wheel.inMonth(0, n, weekday, 1), wheel, 1);
+                    came("10 inMonth " + date + " " + n + " " + weekday, due, wheel.inMonth(0, n, weekday, 1), wheel,
+                            1);
                 }
             }
         }
