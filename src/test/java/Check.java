@@ -30,6 +30,10 @@ final class Check {
     private Check() {
     }
 
+    static int done() {
+        return done;
+    }
+
     static void same(String what, long due, long got) {
         done++;
         if (due != got) {
