@@ -1,15 +1,17 @@
+import java.lang.reflect.Field;
 import java.time.LocalDate;
 import java.util.Arrays;
 
 /** Promise 1 and promises 47 to 50. */
 public final class WholeTest {
-    public static void main(String[] args) {
+    public static void main(String[] args) throws ReflectiveOperationException {
         newObject();
         longShare();
         meanDay();
         checksum();
         checksumOfEach();
         isSound();
+        isSoundSees();
         everyDay();
         Check.end("WholeTest");
     }
@@ -166,6 +168,28 @@ public final class WholeTest {
         Check.thrown(() -> refused.date(0, 2023, 2, 29));
         Check.thrown(() -> refused.go(0, 1, false, 0));
         Check.holds("50 behind refused calls", refused.isSound());
+    }
+
+    /** No call brings this about, but a check that could not fail would check nothing. */
+    private static void isSoundSees() throws ReflectiveOperationException {
+        for (int slot = 0; slot < 6; slot++) {
+            forged("dates", slot, -4371588);
+            forged("dates", slot, 2932897);
+        }
+        for (int slot = 0; slot < 4; slot++) {
+            forged("times", slot, -1);
+            forged("times", slot, 86400000000000L);
+            forged("momentTimes", slot, -1);
+            forged("momentTimes", slot, 86400000000000L);
+        }
+    }
+
+    private static void forged(String slots, int slot, long number) throws ReflectiveOperationException {
+        Yearwheel wheel = new Yearwheel();
+        Field field = Yearwheel.class.getDeclaredField(slots);
+        field.setAccessible(true);
+        ((long[]) field.get(wheel))[slot] = number;
+        Check.holds("50 " + number + " in a slot of " + slots + " is not seen", !wheel.isSound());
     }
 
     /** Every date that there is, by its number, its parts and the theorem. */
