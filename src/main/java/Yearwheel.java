@@ -626,6 +626,7 @@ public final class Yearwheel {
             }
         }
         for (int slot = 0; slot < SLOTS; slot++) {
+            sound = sound && isSoundDay(momentDays[slot]);
             for (int other = 0; other < SLOTS; other++) {
                 sound = sound && isSoundTimeWay(times[slot], times[other]) && isSoundMomentWay(slot, other);
             }

@@ -179,6 +179,8 @@ public final class WholeTest {
         for (int slot = 0; slot < 4; slot++) {
             forged("times", slot, -1);
             forged("times", slot, 86400000000000L);
+            forged("momentDays", slot, -4371588);
+            forged("momentDays", slot, 2932897);
             forged("momentTimes", slot, -1);
             forged("momentTimes", slot, 86400000000000L);
         }
